@@ -48,7 +48,7 @@ public final class GoTest {
         boolean[] reached = new boolean[16];
         reached[from] = true;
         int ticks = 0;
-        while (!reached[to]) {
+        while (!reached[to] && ticks < 16) {
             boolean[] next = new boolean[16];
             for (int state = 0; state < 16; state++) {
                 for (int mode = 0; reached[state] && mode <= 1; mode++) {

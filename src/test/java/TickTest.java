@@ -78,7 +78,8 @@ public final class TickTest {
             Check.code(rows, code);
             Check.walk(rows, "100");
             Check.bits("bypass with code " + code, rows, "110101", "011010");
-            Check.walk(rows, "11100");
+            rows.tick(1, 1);
+            Check.walk(rows, "1100");
             Check.bits("0 is captured", rows, "11", "01");
         }
     }
