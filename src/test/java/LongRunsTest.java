@@ -13,6 +13,7 @@ public final class LongRunsTest {
     private final int reach;
     private final int clocks;
     private final StringBuilder told = new StringBuilder();
+    private int calls = 0;
 
     private LongRunsTest(long seed) {
         random = new Random(seed);
@@ -33,8 +34,10 @@ public final class LongRunsTest {
     }
 
     private boolean run() {
-        for (int call = 0; call < CALLS; call++) {
-            if (!one(random.nextInt(32))) {
+        // A new code takes seven calls, anything else one.
+        while (calls < CALLS) {
+            int which = random.nextInt(32);
+            if (!one(calls + 7 > CALLS && which == 20 ? 21 : which)) {
                 System.out.println(told);
                 return false;
             }
@@ -43,6 +46,7 @@ public final class LongRunsTest {
     }
 
     private boolean same(String call, LongSupplier got, LongSupplier want) {
+        calls++;
         String answer = answerOf(got);
         String due = answerOf(want);
         told.append(call).append(" -> ").append(answer).append('\n');

@@ -11,16 +11,50 @@ public final class StateTest {
     };
 
     public static void main(String[] args) {
+        atFirst();
+        byModes();
+        byAnyCode();
+        Check.end();
+    }
+
+    private static void atFirst() {
+        Check.says("At first 0.");
+        ScanRows rows = new ScanRows(-1);
+        Check.due("state()", rows.state(), 0);
+        Check.due("asked again", rows.state(), 0);
+        rows.port(0);
+        rows.latch(0, 0, 0);
+        rows.make(1);
+        rows.shift(1);
+        Check.due("behind calls that do not tick", rows.state(), 0);
+    }
+
+    private static void byModes() {
+        Check.says("By mode 0 / 1 they go on");
         for (int state = 0; state < 16; state++) {
             for (int mode = 0; mode <= 1; mode++) {
-                ScanRows rows = new ScanRows(0);
-                Check.walk(rows, WAY[state]);
-                Check.due("by " + WAY[state], rows.state(), state);
-                Check.due("asked again", rows.state(), state);
-                rows.tick(mode, 1);
-                Check.due("from " + state + " by " + mode, rows.state(), NEXT[state][mode]);
+                for (int bit = 0; bit <= 1; bit++) {
+                    ScanRows rows = new ScanRows(0);
+                    Check.walk(rows, WAY[state]);
+                    Check.due("by " + WAY[state], rows.state(), state);
+                    Check.due("asked again", rows.state(), state);
+                    rows.tick(mode, bit);
+                    Check.due("from " + state + " by " + mode, rows.state(), NEXT[state][mode]);
+                }
             }
         }
-        Check.end();
+    }
+
+    private static void byAnyCode() {
+        Check.says("By mode 0 / 1 they go on");
+        for (int code = 0; code < 16; code++) {
+            ScanRows rows = Check.withCells("01");
+            Check.code(rows, code);
+            for (int state = 1; state < 16; state++) {
+                Check.walk(rows, WAY[state]);
+                Check.due("with code " + code, rows.state(), state);
+                rows.go(1);
+            }
+        }
     }
 }
